@@ -418,14 +418,6 @@ public final class ForeignKeyStore {
         return value == NULL || isKey(value);
     }
 
-    private static boolean isRow(int row) {
-        return row >= 0 && row < ALL_ROWS;
-    }
-
-    private static boolean isConstraint(int number) {
-        return number >= 0 && number < ALL_CONSTRAINTS;
-    }
-
     private static int rowNumber(int table, int key) {
         return table * KEYS + key;
     }
@@ -578,15 +570,15 @@ public final class ForeignKeyStore {
         }
 
         int parentOf(int number) {
-            return isConstraint(number) ? parents[number] : NONE;
+            return number >= 0 && number < ALL_CONSTRAINTS ? parents[number] : NONE;
         }
 
         int actionOf(int number) {
-            return isConstraint(number) ? actions[number] : NO_ACTION;
+            return number >= 0 && number < ALL_CONSTRAINTS ? actions[number] : NO_ACTION;
         }
 
         boolean isDeferred(int number) {
-            return isConstraint(number) && modes[number];
+            return number >= 0 && number < ALL_CONSTRAINTS && modes[number];
         }
 
         int count() {
@@ -600,7 +592,7 @@ public final class ForeignKeyStore {
         }
 
         void put(int number, int parent, int action, boolean deferred) {
-            if (isConstraint(number)) {
+            if (number >= 0 && number < ALL_CONSTRAINTS) {
                 parents[number] = parent;
                 actions[number] = action;
                 modes[number] = deferred;
@@ -608,7 +600,7 @@ public final class ForeignKeyStore {
         }
 
         void putMode(int number, boolean deferred) {
-            if (isConstraint(number)) {
+            if (number >= 0 && number < ALL_CONSTRAINTS) {
                 modes[number] = deferred;
             }
         }
@@ -665,7 +657,7 @@ public final class ForeignKeyStore {
         }
 
         void add(int row) {
-            if (isRow(row) && !known[row] && length < ALL_ROWS) {
+            if (row >= 0 && row < ALL_ROWS && !known[row] && length < ALL_ROWS) {
                 known[row] = true;
                 queue[length] = row;
                 length++;

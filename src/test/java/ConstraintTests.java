@@ -188,6 +188,11 @@ public final class ConstraintTests {
         CHECKS.outOfBounds("column -1", () -> store.constraint(0, -1, 0));
         CHECKS.outOfBounds("column 2", () -> store.constraint(0, 2, 0));
         CHECKS.outOfBounds("column 2 and part 4", () -> store.constraint(0, 2, 4));
+        store.rollBack();
+        store.define(1, 1, 3, SET_NULL, true);
+        store.insert(2, 0, NULL, 4);
+        CHECKS.due("part 3, rows of the next table", store.constraint(1, 1, 3), 0);
+        CHECKS.due("part 3, rows of the table", store.constraint(2, 1, 3), 1);
         CHECKS.due("part 3 of all keys", violationsOfAFullTable(), 20);
     }
 

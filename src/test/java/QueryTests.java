@@ -81,6 +81,11 @@ public final class QueryTests {
         CHECKS.due("references(3, 6)", store.references(3, 6), 0);
         store.delete(1, 0);
         CHECKS.due("references(0, 6) after delete", store.references(0, 6), 3);
+        store.rollBack();
+        store.define(0, 0, 3, CASCADE, true);
+        store.insert(0, 19, 19, 19);
+        CHECKS.due("by the constraint 0", store.references(3, 19), 1);
+        CHECKS.due("by the constraint 1", store.references(0, 19), 1);
         CHECKS.outOfBounds("table -1", () -> store.references(-1, 0));
         CHECKS.outOfBounds("table 4", () -> store.references(4, 0));
         CHECKS.outOfBounds("key -1", () -> store.references(0, -1));
@@ -115,6 +120,20 @@ public final class QueryTests {
         CHECKS.outOfBounds("table 4", () -> store.ancestors(4, 0));
         CHECKS.outOfBounds("key -1", () -> store.ancestors(0, -1));
         CHECKS.outOfBounds("key 20", () -> store.ancestors(0, 20));
+    }
+
+    private static void ancestorsByOwnConstraints() {
+        CHECKS.about("promise 20, constraints of other tables");
+        ForeignKeyStore store = new ForeignKeyStore();
+        store.define(1, 0, 3, NO_ACTION, true);
+        store.define(0, 1, 3, NO_ACTION, true);
+        store.insert(3, 5, NULL, NULL);
+        store.insert(0, 0, 5, NULL);
+        store.insert(1, 0, NULL, 5);
+        CHECKS.due("ancestors(0, 0)", store.ancestors(0, 0), 0);
+        CHECKS.due("ancestors(1, 0)", store.ancestors(1, 0), 0);
+        store.update(0, 0, 1, 5);
+        CHECKS.due("ancestors(0, 0) then", store.ancestors(0, 0), 1);
     }
 
     private static void ancestorsOfAllRows() {
@@ -155,6 +174,7 @@ public final class QueryTests {
         rows();
         references();
         ancestors();
+        ancestorsByOwnConstraints();
         ancestorsOfAllRows();
         queriesChangeNothing();
         CHECKS.end("QueryTests");

@@ -144,6 +144,18 @@ public final class StatementTests {
         CHECKS.due("not restricted any more", store.delete(0, 1), 2);
     }
 
+    private static void deleteRefusedByTheConstraint0() {
+        CHECKS.about("section 3, the refusal -10");
+        ForeignKeyStore store = new ForeignKeyStore();
+        store.define(0, 0, 1, RESTRICT, true);
+        store.insert(1, 8, NULL, NULL);
+        store.insert(0, 8, 8, NULL);
+        String before = Checks.stateOf(store);
+        CHECKS.due("ifDeleted(1, 8)", store.ifDeleted(1, 8), -10);
+        CHECKS.due("delete(1, 8)", store.delete(1, 8), -10);
+        CHECKS.due("the state after it", Checks.stateOf(store), before);
+    }
+
     private static void deleteRestrictedInTheQueue() {
         CHECKS.about("section 3, RESTRICT of a row in the queue");
         ForeignKeyStore store = new ForeignKeyStore();
@@ -399,6 +411,7 @@ public final class StatementTests {
         update();
         delete();
         deleteRestricted();
+        deleteRefusedByTheConstraint0();
         deleteRestrictedInTheQueue();
         deleteUndoesAPartialCascade();
         deleteWithNoAction();

@@ -186,6 +186,11 @@ public final class TextTests {
 
     private static void runTextRefused() {
         CHECKS.about("promise 15, refusals");
+        ForeignKeyStore lowest = new ForeignKeyStore();
+        lowest.define(0, 0, 1, NO_ACTION, false);
+        Checks.write(lowest, "i0,0,0,n;s");
+        CHECKS.due("by the constraint 0", lowest.runText(), 1);
+        CHECKS.due("what came behind it", lowest.savePoints(), 0);
         ForeignKeyStore store = new ForeignKeyStore();
         store.define(1, 0, 0, NO_ACTION, false);
         store.define(1, 1, 0, CASCADE, true);
