@@ -19,6 +19,10 @@ final class Checks {
         }
     }
 
+    int done() {
+        return done;
+    }
+
     void outOfBounds(String call, Supplier<?> run) {
         due(call, answerOf(run), "IndexOutOfBoundsException");
     }

@@ -21,6 +21,13 @@ public final class StatementTests {
         CHECKS.due("value(3, 0, 1)", store.value(3, 0, 1), 19);
         CHECKS.due("value(1, 19, 0)", store.value(1, 19, 0), 18);
         CHECKS.due("value(1, 19, 1)", store.value(1, 19, 1), 0);
+    }
+
+    private static void insertWithWrongInputs() {
+        CHECKS.about("promise 5, exceptions");
+        ForeignKeyStore store = new ForeignKeyStore();
+        store.insert(0, 0, 7, 8);
+        store.insert(0, 19, 7, 8);
         String before = Checks.stateOf(store);
         CHECKS.outOfBounds("table -1", () -> store.insert(-1, 0, 0, 0));
         CHECKS.outOfBounds("table 4", () -> store.insert(4, 0, 0, 0));
@@ -406,6 +413,7 @@ public final class StatementTests {
 
     public static void main(String[] args) {
         insert();
+        insertWithWrongInputs();
         insertRefused();
         insertChecksAllConstraints();
         update();
