@@ -200,6 +200,16 @@ final class BoundariesOfPromises12To15 extends Boundaries {
         return store;
     }
 
+    @Sentence("Execution ends before the first command for which the method would throw an exception")
+    static void promise15_anExceptionBeforeARefusal(Checks checks) {
+        for (String text : new String[] {"i1,0,7,n;s", "u1,19,0,7;s", "d1,19;s", "b0;s"}) {
+            ForeignKeyStore store = strict(text);
+            checks.due("runText() of \"" + text + "\"", store.runText(), 0);
+            checks.due("savePoints() after \"" + text + "\"", store.savePoints(), 0);
+            checks.due("changes() after \"" + text + "\"", store.changes(), 0);
+        }
+    }
+
     private static void endsWith(Checks checks, String text, int executed) {
         ForeignKeyStore store = strict(text);
         int savepoints = text.startsWith("s;") ? 1 : 0;
@@ -263,8 +273,8 @@ final class BoundariesOfPromises12To15 extends Boundaries {
     static void promise15_from0To40Commands(Checks checks) {
         checks.due("no command", withText("d0,0").runText(), 0);
         checks.due("one command", withText("c").runText(), 1);
-        checks.due("39 commands of 80 characters", withText("c;".repeat(38) + "d0,0").runText(), 38);
-        checks.due("39 commands of 79 characters and a savepoint", withText("c;".repeat(38) + "s;b0").runText(), 40);
+        checks.due("38 of 39 commands", withText("c;".repeat(38) + "d0,0").runText(), 38);
+        checks.due("40 commands, a savepoint and back to it", withText("c;".repeat(38) + "s;b0").runText(), 40);
         checks.due("40 commands", withText("r;".repeat(39) + "c").runText(), 40);
         ForeignKeyStore longest = withText("i3,10,10,10;i3,11,10,10;i3,12,10,10;i3,13,10,10;i3,14,10,10;i3,15,10,10;c");
         checks.due("the longest insertions", longest.runText(), 7);
