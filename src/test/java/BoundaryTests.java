@@ -117,6 +117,7 @@ public final class BoundaryTests {
                 run(checks, test);
             }
         }
+        checks.due("a test that begins with " + begin, checks.done() > 0, true);
     }
 
     private static void runAll(Checks checks, List<Test> tests)
